@@ -60,9 +60,14 @@ final class Kit {
 
     /** A house whose program is this text. */
     static BoundHouse taken(String text) {
+        return taken(text, 0);
+    }
+
+    /** A house that was asked to take this text, with this FAULT. */
+    static BoundHouse taken(String text, int fault) {
         BoundHouse house = new BoundHouse();
         int answer = judge(house, text);
-        if (answer != 0) {
+        if (answer != fault) {
             note("refused with " + answer + " at " + house.fault(1) + ": " + text);
         }
         return house;
