@@ -232,19 +232,21 @@ public final class BoundHouse {
         }
 
         void setConstant(int number) {
-            setTerm(number, 0, 0);
+            size = 0;
+            if (number != 0 && coefs.length > 0) {
+                coefs[0] = number;
+                sums[0] = 0;
+                powers[0] = 0;
+                size = 1;
+            }
         }
 
         void setSymbol(int symbol) {
-            setTerm(1, 1, 1L << (60 - 4 * symbol));
-        }
-
-        private void setTerm(int coef, int sum, long power) {
             size = 0;
-            if (coef != 0 && coefs.length > 0) {
-                coefs[0] = coef;
-                sums[0] = sum;
-                powers[0] = power;
+            if (coefs.length > 0) {
+                coefs[0] = 1;
+                sums[0] = 1;
+                powers[0] = 1L << (60 - 4 * symbol);
                 size = 1;
             }
         }
@@ -315,6 +317,7 @@ public final class BoundHouse {
             Poly less = a.size < b.size ? a : b;
             size = 0;
             for (int k = 0; k < less.size; k++) {
+                big = big || crowded(more, less.powers[k]);
                 addProduct(more, less.coefs[k], less.sums[k], less.powers[k]);
             }
             settle(out);
@@ -377,7 +380,7 @@ public final class BoundHouse {
 
         /** Adds the poly times one term to what is being worked; coefficients are looked at when it is settled. */
         private void addProduct(Poly poly, long coef, int sum, long power) {
-            big = big || size + poly.size > ROOM || crowded(poly, power);
+            big = big || size + poly.size > ROOM;
             if (big) {
                 return;
             }
@@ -409,7 +412,16 @@ public final class BoundHouse {
                     made++;
                 }
             }
-            swap(made);
+            long[] oldCoefs = coefs;
+            int[] oldSums = sums;
+            long[] oldPowers = powers;
+            coefs = nextCoefs;
+            sums = nextSums;
+            powers = nextPowers;
+            nextCoefs = oldCoefs;
+            nextSums = oldSums;
+            nextPowers = oldPowers;
+            size = made;
         }
 
         /** Whether a term of the poly times one with these powers has a power above 9. */
@@ -422,19 +434,6 @@ public final class BoundHouse {
                 tops |= odd + (poly.powers[k] >>> 4 & LOW_HALVES);
             }
             return (tops & TOP_BITS) != 0;
-        }
-
-        private void swap(int made) {
-            long[] oldCoefs = coefs;
-            int[] oldSums = sums;
-            long[] oldPowers = powers;
-            coefs = nextCoefs;
-            sums = nextSums;
-            powers = nextPowers;
-            nextCoefs = oldCoefs;
-            nextSums = oldSums;
-            nextPowers = oldPowers;
-            size = made;
         }
 
         private void settle(Poly out) {
@@ -825,30 +824,25 @@ public final class BoundHouse {
             return at < tokens.size ? tokens.places[at] : 0;
         }
 
-        private void stick() {
-            if (stuckAt < 0) {
-                stuckAt = place();
-            }
-        }
-
         private boolean take(int kind) {
-            boolean fits = kind() == kind;
+            boolean fits = stuckAt < 0 && at < tokens.size && tokens.kinds[at] == kind;
             if (fits) {
                 at++;
             }
             return fits;
         }
 
-        private void want(int kind) {
-            if (!take(kind)) {
-                stick();
+        /** Takes a token of this kind, and tells its value; if it is of another kind, the reader is stuck. */
+        private long want(int kind) {
+            if (stuckAt >= 0 || at >= tokens.size) {
+                return 0;
             }
-        }
-
-        /** Takes a token of this kind, and tells its value. */
-        private long wantValue(int kind) {
-            long value = at < tokens.size ? tokens.values[at] : 0;
-            want(kind);
+            long value = tokens.values[at];
+            if (tokens.kinds[at] == kind) {
+                at++;
+            } else {
+                stuckAt = tokens.places[at];
+            }
             return value;
         }
 
@@ -873,7 +867,7 @@ public final class BoundHouse {
             }
             want(Tokens.METHOD);
             int place = place();
-            method.name = wantValue(Tokens.NAME);
+            method.name = want(Tokens.NAME);
             if (program.findMethod(method.name) >= 0) {
                 breakRule(place);
             }
@@ -904,7 +898,7 @@ public final class BoundHouse {
             boolean more = true;
             for (int turn = 0; turn < tokens.size && more; turn++) {
                 int place = place();
-                long name = wantValue(Tokens.NAME);
+                long name = want(Tokens.NAME);
                 if (method.findName(name) >= 0 || method.names >= Method.NAMES
                         || params && method.params >= Method.PARAMS) {
                     breakRule(place);
@@ -985,7 +979,7 @@ public final class BoundHouse {
         private int readFactor(boolean inGives) {
             int place = place();
             if (kind() == Tokens.NUMBER) {
-                factor.setConstant((int) wantValue(Tokens.NUMBER));
+                factor.setConstant((int) want(Tokens.NUMBER));
                 return 1;
             }
             if (take(Tokens.RESULT)) {
@@ -994,13 +988,17 @@ public final class BoundHouse {
                 }
                 factor.setSymbol(Math.min(method.params, Method.PARAMS));
             } else {
-                factor.setSymbol(findName(wantValue(Tokens.NAME), place));
+                int found = method.findName(want(Tokens.NAME));
+                if (found < 0) {
+                    breakRule(place);
+                }
+                factor.setSymbol(Math.max(found, 0));
             }
             if (!take('^')) {
                 return 1;
             }
             int powerPlace = place();
-            long power = wantValue(Tokens.NUMBER);
+            long power = want(Tokens.NUMBER);
             if (power < 1 || power > MOST_POWER) {
                 breakRule(powerPlace);
                 return 1;
@@ -1019,7 +1017,7 @@ public final class BoundHouse {
 
         private void readBlock(boolean first) {
             block = new Block(method, place());
-            block.name = wantValue(Tokens.NAME);
+            block.name = want(Tokens.NAME);
             if (method.findBlock(block.name, 0) >= 0 || method.blocks.size() >= MOST_BLOCKS) {
                 breakRule(block.place);
             }
@@ -1048,7 +1046,7 @@ public final class BoundHouse {
                 breakRule(step.place);
             }
             block.steps.add(step);
-            long name = wantValue(Tokens.NAME);
+            long name = want(Tokens.NAME);
             if (take('[')) {
                 step.kind = Step.STORE;
                 step.base = findName(name, step.place);
@@ -1062,7 +1060,14 @@ public final class BoundHouse {
                 if (step.target < method.params) {
                     breakRule(step.place);
                 }
-                readExp(step);
+                if (kind() == Tokens.NAME && kindBehind() == '(') {
+                    readCall(step);
+                } else {
+                    readExp(step);
+                }
+            }
+            if (step.kind == Step.SET) {
+                readOperation(step);
             }
             want(';');
         }
@@ -1076,18 +1081,16 @@ public final class BoundHouse {
                 readAtom(step);
             } else if (take(Tokens.READ)) {
                 step.kind = Step.TAKE;
-            } else if (kind() == Tokens.NAME && kindBehind() == '(') {
-                readCall(step);
             } else if (kind() == Tokens.NAME && kindBehind() == '[') {
                 step.kind = Step.LOAD;
                 int place = place();
-                step.base = findName(wantValue(Tokens.NAME), place);
+                step.base = findName(want(Tokens.NAME), place);
                 want('[');
                 readAtom(step);
                 want(']');
             } else {
+                step.kind = Step.SET;
                 readAtom(step);
-                readOperation(step);
             }
         }
 
@@ -1103,8 +1106,8 @@ public final class BoundHouse {
             want(')');
         }
 
+        /** What may stand behind an atom that a statement sets. */
         private void readOperation(Step step) {
-            step.kind = Step.SET;
             if (take('+')) {
                 step.kind = Step.ADD;
             } else if (take('-')) {
@@ -1118,7 +1121,7 @@ public final class BoundHouse {
             }
             if (step.kind == Step.DIVIDE || step.kind == Step.REMAIN) {
                 int place = place();
-                int divisor = (int) wantValue(Tokens.NUMBER);
+                int divisor = (int) want(Tokens.NUMBER);
                 if (divisor == 0) {
                     breakRule(place);
                 }
@@ -1131,17 +1134,17 @@ public final class BoundHouse {
         private void readAtom(Step step) {
             if (kind() == Tokens.NAME) {
                 int place = place();
-                step.addAtom(findName(wantValue(Tokens.NAME), place), 0);
+                step.addAtom(findName(want(Tokens.NAME), place), 0);
             } else {
                 boolean minus = take('-');
-                int value = (int) wantValue(Tokens.NUMBER);
+                int value = (int) want(Tokens.NUMBER);
                 step.addAtom(-1, minus ? -value : value);
             }
         }
 
         private void readGoal(Step step, int k) {
             step.goalPlaces[k] = place();
-            step.goalNames[k] = wantValue(Tokens.NAME);
+            step.goalNames[k] = want(Tokens.NAME);
         }
 
         private void readJump() {
@@ -1170,14 +1173,10 @@ public final class BoundHouse {
 
         private void readRelation(Step step) {
             int kind = kind();
-            boolean fits = kind == '<' || kind == '>' || kind == Tokens.AT_MOST || kind == Tokens.AT_LEAST
-                    || kind == Tokens.EQUAL || kind == Tokens.UNLIKE;
-            if (fits) {
-                step.relation = kind;
-                at++;
-            } else {
-                stick();
-            }
+            boolean fits = kind == '>' || kind == Tokens.AT_MOST || kind == Tokens.AT_LEAST || kind == Tokens.EQUAL
+                    || kind == Tokens.UNLIKE;
+            step.relation = fits ? kind : '<';
+            want(step.relation);
         }
 
         private void readWitnesses() {
@@ -1204,7 +1203,7 @@ public final class BoundHouse {
             program.witnesses.add(witness);
             block.witnesses++;
             if (kind() == Tokens.NUMBER && kindBehind() == ':') {
-                witness.number = (int) wantValue(Tokens.NUMBER);
+                witness.number = (int) want(Tokens.NUMBER);
                 want(':');
             }
             boolean more = true;
@@ -1221,7 +1220,7 @@ public final class BoundHouse {
         private void readProduct() {
             boolean more = true;
             if (kind() == Tokens.NUMBER) {
-                program.addProduct((int) wantValue(Tokens.NUMBER));
+                program.addProduct((int) want(Tokens.NUMBER));
                 more = take('*');
             } else {
                 program.addProduct(1);
@@ -1231,7 +1230,7 @@ public final class BoundHouse {
                     breakRule(place());
                 }
                 want('#');
-                program.addHyp(k, (int) wantValue(Tokens.NUMBER));
+                program.addHyp(k, (int) want(Tokens.NUMBER));
                 more = take('*');
             }
         }
@@ -1652,9 +1651,14 @@ public final class BoundHouse {
         private static final int RETURNED = 0;
         private static final int FAILED = 1;
         private static final int CUT = 2;
+        private static final int NOTHING = 0;
+        private static final int CALL_BEGAN = 1;
+        private static final int BLOCK_BEGAN = 2;
+        private static final int CALL_ENDED = 3;
 
         /** What about() tells of the latest run. */
         final int[] facts = new int[9];
+        /** What the latest call that ended returned; 0 behind a run that did not. */
         long answer = 0;
 
         private Program program = new Program();
@@ -1662,6 +1666,7 @@ public final class BoundHouse {
         private int givenSize = 0;
         private Audit audit = null;
         private boolean running = false;
+        private int event = NOTHING;
         private int open = 0;
         /** Of each call that is open its block, the statement that is next, and the values of its names. */
         private final Block[] blocks = new Block[OPEN_LIMIT];
@@ -1686,18 +1691,10 @@ public final class BoundHouse {
             given = ints;
             givenSize = intCount;
             audit = watcher;
-            answer = 0;
-            open = 0;
-            Arrays.fill(facts, 0);
-            facts[PLACE] = NONE;
-            facts[WHY] = NONE;
-            starts[1] = 0;
             System.arraycopy(params, 0, inputs, 0, inputs.length);
-            if (audit != null) {
-                audit.begin();
-            }
-            running = true;
+            begin();
             openCall(program.methods.get(m));
+            tell();
             for (int turn = 0; turn < STEP_LIMIT && running && open > 0; turn++) {
                 int spot = spots[open - 1];
                 Block block = blocks[open - 1];
@@ -1707,11 +1704,54 @@ public final class BoundHouse {
                 } else {
                     doJump(block.jump);
                 }
+                tell();
             }
+            end();
+        }
+
+        private void begin() {
+            Arrays.fill(facts, 0);
+            facts[PLACE] = NONE;
+            facts[WHY] = NONE;
+            answer = 0;
+            open = 0;
+            starts[1] = 0;
+            running = true;
+            if (audit != null) {
+                audit.begin();
+            }
+        }
+
+        private void end() {
             if (running) {
                 facts[ENDED] = CUT;
-                closeAll();
             }
+            if (facts[ENDED] != RETURNED) {
+                answer = 0;
+            }
+            for (int call = open - 1; call >= 0 && audit != null; call--) {
+                audit.callEnds(call, facts);
+            }
+        }
+
+        /** Tells the audit, if there is one, what the latest step began or ended. */
+        private void tell() {
+            int top = open - 1;
+            if (audit != null && event == CALL_ENDED) {
+                audit.callReturns(open, answer);
+                audit.callEnds(open, facts);
+            } else if (audit != null && event != NOTHING && top >= 0) {
+                Block block = blocks[top];
+                Method method = block.method;
+                int from = top * Method.NAMES;
+                if (event == CALL_BEGAN) {
+                    audit.callBegins(top, method, values);
+                    audit.claim(method.needs, method.steps, method.cells, values, from, facts);
+                } else {
+                    audit.claim(block.keeps, block.leftSteps, block.leftCells, values, from, facts);
+                }
+            }
+            event = NOTHING;
         }
 
         /** The params' values are in inputs. */
@@ -1725,23 +1765,14 @@ public final class BoundHouse {
             open++;
             facts[CALLS]++;
             facts[MOST_OPEN] = Math.max(facts[MOST_OPEN], open);
-            if (audit != null) {
-                audit.callBegins(method, values, from, facts);
-            }
+            event = CALL_BEGAN;
         }
 
         private void breakOff(int why, Step step) {
             facts[ENDED] = FAILED;
             facts[WHY] = why;
             facts[PLACE] = step.place;
-            closeAll();
-        }
-
-        private void closeAll() {
             running = false;
-            for (int call = open - 1; call >= 0 && audit != null; call--) {
-                audit.callEnds(call, facts);
-            }
         }
 
         private long name(int k) {
@@ -1885,27 +1916,22 @@ public final class BoundHouse {
             int top = open - 1;
             blocks[top] = blocks[top].method.blocks.get(goal);
             spots[top] = 0;
-            if (audit != null) {
-                audit.blockBegins(blocks[top], values, top * Method.NAMES, facts);
-            }
+            event = BLOCK_BEGAN;
         }
 
         private void giveBack(long value) {
-            int top = open - 1;
-            if (audit != null) {
-                audit.callReturns(top, value);
-                audit.callEnds(top, facts);
-            }
-            open = top;
+            open--;
+            answer = value;
+            event = CALL_ENDED;
             if (open == 0) {
-                answer = value;
                 facts[ENDED] = RETURNED;
                 running = false;
                 return;
             }
             Block block = blocks[open - 1];
-            if (spots[open - 1] < block.steps.size()) {
-                bring(block.steps.get(spots[open - 1]), value);
+            int spot = spots[open - 1];
+            if (spot < block.steps.size()) {
+                bring(block.steps.get(spot), value);
             }
         }
     }
@@ -1949,22 +1975,23 @@ public final class BoundHouse {
             claims = 0;
         }
 
-        void callBegins(Method method, long[] values, int from, int[] facts) {
-            int call = from / Method.NAMES;
-            if (call < 0 || call >= methods.length || from + Method.NAMES > values.length) {
-                return;
+        void callBegins(int call, Method method, long[] values) {
+            int from = call * Method.NAMES;
+            if (call >= 0 && call < methods.length && from + SLOT <= values.length) {
+                firsts[call] = claims;
+                methods[call] = method;
+                System.arraycopy(values, from, inputs, call * SLOT, SLOT);
             }
-            firsts[call] = claims;
-            methods[call] = method;
-            System.arraycopy(values, from, inputs, call * SLOT, SLOT);
-            System.arraycopy(values, from, view, 0, Method.NAMES);
-            addClaim(method.needs, method.steps, method.cells, facts);
         }
 
-        void blockBegins(Block block, long[] values, int from, int[] facts) {
-            if (from >= 0 && from + Method.NAMES <= values.length) {
-                System.arraycopy(values, from, view, 0, Method.NAMES);
-                addClaim(block.keeps, block.leftSteps, block.leftCells, facts);
+        /** These are 0 or more, it is told, and no more steps and cells than these are used from now on. */
+        void claim(ArrayList<Poly> conds, Poly steps, Poly cells, long[] values, int from, int[] facts) {
+            if (claims < CLAIMS && from >= 0 && from + view.length <= values.length) {
+                System.arraycopy(values, from, view, 0, view.length);
+                wrongs[claims] = anyBelow(conds);
+                stepEnds[claims] = facts[Machine.STEPS] + clamped(steps);
+                cellEnds[claims] = facts[Machine.CELLS] + clamped(cells);
+                claims++;
             }
         }
 
@@ -1989,15 +2016,6 @@ public final class BoundHouse {
                 }
             }
             claims = firsts[call];
-        }
-
-        private void addClaim(ArrayList<Poly> conds, Poly steps, Poly cells, int[] facts) {
-            if (claims < CLAIMS) {
-                wrongs[claims] = anyBelow(conds);
-                stepEnds[claims] = facts[Machine.STEPS] + clamped(steps);
-                cellEnds[claims] = facts[Machine.CELLS] + clamped(cells);
-                claims++;
-            }
         }
 
         private boolean anyBelow(ArrayList<Poly> conds) {

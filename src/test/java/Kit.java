@@ -79,6 +79,9 @@ final class Kit {
         due("judge of [" + text + "]", judge(house, text), fault);
         due("fault(0) of [" + text + "]", house.fault(0), fault);
         due("fault(1) of [" + text + "]", house.fault(1), fault == 0 ? -1 : place);
+        Oracle oracle = new Oracle(bytes(text), true);
+        due("the oracle's fault of [" + text + "]", oracle.fault, fault);
+        due("the oracle's place of [" + text + "]", oracle.place, fault == 0 ? -1 : place);
     }
 
     /** The same, the place being that of the sign @, which is taken out. */
