@@ -278,7 +278,9 @@ public final class BoundHouse {
     static final class Algebra {
         static final int TERMS = 60;
         private static final int TOP = 99_999_999;
-        private static final int ROOM = TERMS * TERMS + TERMS;
+        /** A product of two polys has no more terms than this before like ones are put together. */
+        private static final int MOST_ROOM = TERMS * TERMS + TERMS;
+        private static final int FIRST_ROOM = 2 * TERMS;
         private static final long LOW_HALVES = 0x0F0F0F0F0F0F0F0FL;
         private static final long TEN_TO_TOP_BIT = 0x7676767676767676L;
         private static final long TOP_BITS = 0x8080808080808080L;
@@ -288,12 +290,12 @@ public final class BoundHouse {
         /** The latest worth() went beyond 64 bits. */
         boolean beyond = false;
 
-        private long[] coefs = new long[ROOM];
-        private int[] sums = new int[ROOM];
-        private long[] powers = new long[ROOM];
-        private long[] nextCoefs = new long[ROOM];
-        private int[] nextSums = new int[ROOM];
-        private long[] nextPowers = new long[ROOM];
+        private long[] coefs = new long[FIRST_ROOM];
+        private int[] sums = new int[FIRST_ROOM];
+        private long[] powers = new long[FIRST_ROOM];
+        private long[] nextCoefs = new long[FIRST_ROOM];
+        private int[] nextSums = new int[FIRST_ROOM];
+        private long[] nextPowers = new long[FIRST_ROOM];
         private int size = 0;
         private final Poly piece = new Poly(TERMS);
         private final Poly total = new Poly(TERMS);
@@ -380,14 +382,21 @@ public final class BoundHouse {
 
         /** Adds the poly times one term to what is being worked; coefficients are looked at when it is settled. */
         private void addProduct(Poly poly, long coef, int sum, long power) {
-            big = big || size + poly.size > ROOM;
+            int most = size + poly.size;
+            big = big || most > MOST_ROOM;
             if (big) {
                 return;
+            }
+            if (most > nextCoefs.length) {
+                int room = Math.min(2 * most, MOST_ROOM);
+                nextCoefs = new long[room];
+                nextSums = new int[room];
+                nextPowers = new long[room];
             }
             int own = 0;
             int other = 0;
             int made = 0;
-            for (int turn = 0; turn < ROOM && (own < size || other < poly.size); turn++) {
+            for (int turn = 0; turn < most && (own < size || other < poly.size); turn++) {
                 int ownSum = own < size ? sums[own] : -1;
                 long ownPower = own < size ? powers[own] : 0;
                 int otherSum = other < poly.size ? poly.sums[other] + sum : -1;
@@ -485,12 +494,13 @@ public final class BoundHouse {
                 "method needs steps cells gives result var keeps left goto if else return fail new len read by ";
         private static final String SIGNS = "(){}[],;:=<>+-*/%#^";
         private static final int LONGEST = 8;
+        private static final int FIRST_ROOM = 128;
 
         /** A sign's kind is its own character. */
-        final int[] kinds = new int[TEXT_LIMIT + 1];
-        final int[] places = new int[TEXT_LIMIT + 1];
+        int[] kinds = new int[FIRST_ROOM];
+        int[] places = new int[FIRST_ROOM];
         /** A number's value, or a word's characters, seven bits each. */
-        final long[] values = new long[TEXT_LIMIT + 1];
+        long[] values = new long[FIRST_ROOM];
         int size = 0;
         private final long[] noNames = new long[NO_NAMES];
 
@@ -575,12 +585,15 @@ public final class BoundHouse {
         }
 
         private void add(int kind, int place, long value) {
-            if (size < kinds.length) {
-                kinds[size] = kind;
-                places[size] = place;
-                values[size] = value;
-                size++;
+            if (size == kinds.length) {
+                kinds = Arrays.copyOf(kinds, 2 * size);
+                places = Arrays.copyOf(places, 2 * size);
+                values = Arrays.copyOf(values, 2 * size);
             }
+            kinds[size] = kind;
+            places[size] = place;
+            values[size] = value;
+            size++;
         }
     }
 
@@ -1300,9 +1313,6 @@ public final class BoundHouse {
             for (int k = 0; k < inputs.length; k++) {
                 inputs[k] = new Poly(Algebra.TERMS);
             }
-            for (int k = 0; k < hyps.length; k++) {
-                hyps[k] = new Poly(Algebra.TERMS);
-            }
         }
 
         void proveBlock(Program fresh, Block here) {
@@ -1377,6 +1387,9 @@ public final class BoundHouse {
 
         private void come(Poly poly) {
             if (hypCount < hyps.length) {
+                if (hyps[hypCount] == null) {
+                    hyps[hypCount] = new Poly(Algebra.TERMS);
+                }
                 hyps[hypCount].copy(poly);
                 hypCount++;
             }
@@ -1674,8 +1687,8 @@ public final class BoundHouse {
         private final long[] values = new long[OPEN_LIMIT * Method.NAMES];
         private final long[] inputs = new long[Method.PARAMS];
         /** ARRAY k takes the cells from starts[k] up to starts[k + 1]. */
-        private final int[] starts = new int[CELL_LIMIT + 2];
-        private final long[] heap = new long[CELL_LIMIT];
+        private int[] starts = new int[16];
+        private long[] heap = new long[64];
 
         boolean hasCell(int k, int i) {
             return isArray(k) && i >= 0 && i < starts[k + 1] - starts[k];
@@ -1847,13 +1860,20 @@ public final class BoundHouse {
                 breakOff(5, step);
                 return;
             }
-            facts[ARRAYS]++;
+            int made = facts[ARRAYS] + 1;
+            facts[ARRAYS] = made;
             facts[CELLS] += (int) length + 1;
-            int from = starts[facts[ARRAYS]];
+            int from = starts[made];
             int to = from + (int) length;
-            starts[facts[ARRAYS] + 1] = to;
+            if (made + 1 >= starts.length) {
+                starts = Arrays.copyOf(starts, 2 * starts.length);
+            }
+            if (to > heap.length) {
+                heap = Arrays.copyOf(heap, Math.max(to, 2 * heap.length));
+            }
+            starts[made + 1] = to;
             Arrays.fill(heap, from, to, 0);
-            bring(step, facts[ARRAYS]);
+            bring(step, made);
         }
 
         private void doCell(Step step, long index, long value) {
@@ -1941,7 +1961,6 @@ public final class BoundHouse {
      * used until the call's end; when that comes, the claims that were made in it are counted that did not hold.
      */
     static final class Audit {
-        private static final int CLAIMS = Machine.STEP_LIMIT + 2;
         private static final int SLOT = Method.PARAMS + 1;
         /** More than any run uses, of steps or of cells. */
         private static final int PLENTY = Machine.STEP_LIMIT + 1;
@@ -1952,9 +1971,10 @@ public final class BoundHouse {
         int found = 0;
 
         private final Algebra algebra;
-        private final int[] stepEnds = new int[CLAIMS];
-        private final int[] cellEnds = new int[CLAIMS];
-        private final boolean[] wrongs = new boolean[CLAIMS];
+        private int[] stepEnds = new int[256];
+        private int[] cellEnds = new int[256];
+        /** 1 for a claim that did not hold when it was made. */
+        private int[] wrongs = new int[256];
         private int claims = 0;
         /** Of each call that is open its first claim, its method, and its params with room for its result. */
         private final int[] firsts = new int[Machine.OPEN_LIMIT];
@@ -1986,9 +2006,14 @@ public final class BoundHouse {
 
         /** These are 0 or more, it is told, and no more steps and cells than these are used from now on. */
         void claim(ArrayList<Poly> conds, Poly steps, Poly cells, long[] values, int from, int[] facts) {
-            if (claims < CLAIMS && from >= 0 && from + view.length <= values.length) {
+            if (claims == stepEnds.length) {
+                stepEnds = Arrays.copyOf(stepEnds, 2 * claims);
+                cellEnds = Arrays.copyOf(cellEnds, 2 * claims);
+                wrongs = Arrays.copyOf(wrongs, 2 * claims);
+            }
+            if (from >= 0 && from + view.length <= values.length) {
                 System.arraycopy(values, from, view, 0, view.length);
-                wrongs[claims] = anyBelow(conds);
+                wrongs[claims] = anyBelow(conds) ? 1 : 0;
                 stepEnds[claims] = facts[Machine.STEPS] + clamped(steps);
                 cellEnds[claims] = facts[Machine.CELLS] + clamped(cells);
                 claims++;
@@ -2003,7 +2028,9 @@ public final class BoundHouse {
             Arrays.fill(view, 0);
             System.arraycopy(inputs, call * SLOT, view, 0, SLOT);
             view[Math.min(method.params, Method.PARAMS)] = value;
-            wrongs[firsts[call]] = wrongs[firsts[call]] || anyBelow(method.gives);
+            if (anyBelow(method.gives)) {
+                wrongs[firsts[call]] = 1;
+            }
         }
 
         void callEnds(int call, int[] facts) {
@@ -2011,7 +2038,7 @@ public final class BoundHouse {
                 return;
             }
             for (int k = firsts[call]; k < claims; k++) {
-                if (wrongs[k] || facts[Machine.STEPS] > stepEnds[k] || facts[Machine.CELLS] > cellEnds[k]) {
+                if (wrongs[k] != 0 || facts[Machine.STEPS] > stepEnds[k] || facts[Machine.CELLS] > cellEnds[k]) {
                     found++;
                 }
             }

@@ -1,4 +1,5 @@
 import java.util.ArrayList;
+import java.util.Arrays;
 import java.util.List;
 import java.util.Map;
 
@@ -10,7 +11,7 @@ public final class OracleTest {
     private static int runs = 0;
 
     public static void main(String[] args) {
-        int many = args.length > 0 ? Integer.parseInt(args[0]) : 4000;
+        int many = args.length > 0 ? Integer.parseInt(args[0]) : 3000;
         long seed = args.length > 1 ? Long.parseLong(args[1]) : 1;
         String[] seeds = {Texts.LOOP, Texts.RECURSION, Texts.HALVES, Texts.ARRAYS};
         Maker maker = new Maker(seed);
@@ -20,11 +21,12 @@ public final class OracleTest {
             compare(maker.changed(base), maker);
             compare(maker.changed(base), maker);
             if (turn % 8 == 0) {
-                lookOver(maker.changed(base), maker);
+                lookOver(maker.changed(base), new long[] {input(maker), input(maker), input(maker)});
             }
         }
-        System.out.println("faults 0 .. 5: " + java.util.Arrays.toString(FAULTS) + ", ends 0 .. 3: "
-                + java.util.Arrays.toString(ENDS) + ", whys: " + java.util.Arrays.toString(WHYS) + ", runs with overs: "
+        lookOverHighNumbers();
+        System.out.println("faults 0 .. 5: " + Arrays.toString(FAULTS) + ", ends 0 .. 3: "
+                + Arrays.toString(ENDS) + ", whys: " + Arrays.toString(WHYS) + ", runs with overs: "
                 + runs);
         Kit.end();
     }
@@ -135,7 +137,7 @@ public final class OracleTest {
         }
         for (int what = -1; what < 3; what++) {
             Long want = what == 0 ? method.steps.worth(params) : what == 1 ? method.cells.worth(params) : null;
-            due(text, "bound " + what + " of " + java.util.Arrays.toString(call),
+            due(text, "bound " + what + " of " + Arrays.toString(call),
                     house.bound(call[0], what, call[1], call[2], call[3]), meets && want != null ? want : -1);
         }
     }
@@ -160,7 +162,7 @@ public final class OracleTest {
     }
 
     /** Runs what is not proved, so that there is something for the audit to find. */
-    private static void lookOver(String text, Maker maker) {
+    private static void lookOver(String text, long[]... inputs) {
         byte[] bytes = Kit.bytes(text);
         Oracle oracle = new Oracle(bytes, false);
         if (oracle.fault != 0) {
@@ -175,12 +177,29 @@ public final class OracleTest {
         BoundHouse.Machine machine = new BoundHouse.Machine();
         BoundHouse.Audit audit = new BoundHouse.Audit(algebra);
         long[] given = {5, Long.MAX_VALUE, -3};
-        for (int m = 0; m < oracle.methods.size(); m++) {
-            long[] inputs = {input(maker), input(maker), input(maker)};
-            Trial trial = new Trial(oracle, m, inputs, List.of(5L, Long.MAX_VALUE, -3L), false);
-            machine.go(program, m, inputs, given, 3, audit);
-            due(text, "audit of " + m + " with " + java.util.Arrays.toString(inputs), audit.found, trial.overs);
-            runs += trial.overs > 0 ? 1 : 0;
+        for (long[] three : inputs) {
+            for (int m = 0; m < oracle.methods.size(); m++) {
+                Trial trial = new Trial(oracle, m, three, List.of(5L, Long.MAX_VALUE, -3L), false);
+                machine.go(program, m, three, given, 3, audit);
+                due(text, "audit of " + m + " with " + Arrays.toString(three), audit.found, trial.overs);
+                runs += trial.overs > 0 ? 1 : 0;
+            }
+        }
+    }
+
+    /** What is told goes far beyond 64 bits, and comes back. */
+    private static void lookOverHighNumbers() {
+        String text = "method f(n,m) needs n^6*m^6 - n^3*m^3*n^3*m^3 >= 0, n^3 - m^3 >= 0 steps n^6 - m^6 + 2 cells 0"
+                + " gives result^6*n^6 >= 0, result^5*n^6 - result^3*n^4*m^4 >= 0 { var x; a: x = read; goto b;"
+                + " b keeps n^4 - m^4 >= 0, n^6*m^6*x^6*x^3 + 1 >= 0, x^3 - 8*x >= 0"
+                + " left n^3*m^3 - n^6 + 1, n^6*m^6*n^3: x = n * m; goto c;"
+                + " c left 1 + n^5*m - n^6 + m^6 - n*m^5, x^2 - n^2*m^2: x = read; return x; }";
+        long[] values = {0, 1, -1, 2, 3037000499L, Integer.MAX_VALUE, Integer.MIN_VALUE, Integer.MAX_VALUE - 1,
+            Integer.MIN_VALUE + 1, Long.MAX_VALUE, Long.MIN_VALUE, Long.MIN_VALUE + 1};
+        for (long n : values) {
+            for (long m : values) {
+                lookOver(text, new long[] {n, m, 0});
+            }
         }
     }
 }
