@@ -377,6 +377,9 @@ public final class FaultTest {
 
     private static void witnesses() {
         taken(one("fail; by {1: 99; 2: 200}"));
+        taken(one("x = new 5; fail; by {3: 294; 2: 200; 5: 470}"));
+        taken(one("x = n % 3; if n < 3 goto b else c; by {2: 196; 3: 300; 4: 4*#3; 7: 679; 2: 200; 5: 5*#3; 9: 873; 100}"
+                + " b keeps 2 - n >= 0 left 1, 0: fail; by {0; 0} c keeps n - 3 >= 0 left 1, 0: fail; by {0; 0}"));
         taken(one("fail; by {99+0*#0+0; 7: 350+350}"));
         Kit.dueFault(4, one("fail; by {@99+#0; 100}"));
         Kit.dueFault(4, one("fail; by {99; @99}"));

@@ -13,7 +13,7 @@ public final class OracleTest {
     public static void main(String[] args) {
         int many = args.length > 0 ? Integer.parseInt(args[0]) : 3000;
         long seed = args.length > 1 ? Long.parseLong(args[1]) : 1;
-        String[] seeds = {Texts.LOOP, Texts.RECURSION, Texts.HALVES, Texts.ARRAYS};
+        String[] seeds = {Texts.LOOP, Texts.RECURSION, Texts.HALVES, Texts.ARRAYS, Texts.FILL, Texts.PARITY};
         Maker maker = new Maker(seed);
         for (int turn = 0; turn < many && Kit.wrongs() < 20; turn++) {
             String base = turn % 2 == 0 ? seeds[turn / 2 % seeds.length] : maker.fresh();
@@ -25,6 +25,7 @@ public final class OracleTest {
             }
         }
         lookOverHighNumbers();
+        lookOverLowBounds();
         System.out.println("faults 0 .. 5: " + Arrays.toString(FAULTS) + ", ends 0 .. 3: "
                 + Arrays.toString(ENDS) + ", whys: " + Arrays.toString(WHYS) + ", runs with overs: "
                 + runs);
@@ -200,6 +201,23 @@ public final class OracleTest {
             for (long m : values) {
                 lookOver(text, new long[] {n, m, 0});
             }
+        }
+    }
+
+    /** Bounds that are too low here and there, in calls in calls and block behind block. */
+    private static void lookOverLowBounds() {
+        String[] texts = {Texts.RECURSION.replace("6*n + 4", "6*n - 9"), Texts.RECURSION.replace("6*n + 4", "30"),
+            Texts.RECURSION.replace("left 6*n + 2", "left 5*n - 20"), Texts.RECURSION.replace("result >= 0", "result >= 9"),
+            Texts.RECURSION.replace("needs n >= 0", "needs n >= 4"), Texts.RECURSION.replace("n - 1 >= 0", "n >= 3"),
+            Texts.LOOP.replace("5*n + 4", "20"), Texts.LOOP.replace("5*n - 5*i + 2", "2*n - 3*i"),
+            Texts.LOOP.replace("keeps i >= 0, n", "keeps i >= 3, n"), Texts.ARRAYS.replace("cells u + w + 2", "cells u"),
+            Texts.ARRAYS.replace("cells z + 1", "cells 3"), Texts.ARRAYS.replace("3*z + 4", "z"),
+            Texts.FILL.replace("cells n + 1", "cells 4"), Texts.FILL.replace("left 3, 0", "left 3, -1")};
+        for (String text : texts) {
+            for (long n = -1; n < 12; n++) {
+                lookOver(text, new long[] {n, 2 * n, 1}, new long[] {5 * n, 300 * n, 1});
+            }
+            lookOver(text, new long[] {7000, 70000, 0});
         }
     }
 }

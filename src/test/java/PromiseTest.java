@@ -261,6 +261,12 @@ public final class PromiseTest {
         dueResult("return x;", "99; 100", 5, 0);
         dueResult("x = new 3; x = new 0; return x;", "97; 100; 96; 95", 5, 2);
         dueResult("x = new 3; y = len x; return y;", "97; 100; 96", 5, 3);
+        dueResult("x = new 4; x[1] = 5; x[n] = 9; y = x[1]; x = x[n]; y = y * 100; y = y + x; return y;",
+                "92; 100; 95", 3, 509);
+        dueResult("x = new 4; x[1] = 5; x[n] = 9; y = x[1]; x = x[n]; y = y * 100; y = y + x; return y;",
+                "92; 100; 95", 1, 909);
+        dueResult("x = new 2; y = new 2; x[1] = 6; y[0] = 7; x = x[1]; y = y[0]; y = y * 10; y = y + x; return y;",
+                "91; 100; 97; 94", 1, 76);
     }
 
     private static void dueResult(String body, String witnesses, int n, long want) {
@@ -294,6 +300,33 @@ public final class PromiseTest {
         Kit.due("9: NONE leaves it", house.about(7), 2);
         Kit.judge(house, TINY);
         Kit.due("9: another program", house.cell(1, 0), 0);
+        BoundHouse fill = Kit.taken(Texts.FILL);
+        for (long v = 1; v <= 200; v++) {
+            fill.give(seventh(v));
+        }
+        fill.run(0, 210, 0, 0);
+        for (int i = 0; i < 210; i++) {
+            Kit.due("9: cell " + i + " of many", fill.cell(1, i), i < 200 ? seventh(i + 1) : 0);
+        }
+        Kit.due("9: reads", fill.about(8), 210);
+        BoundHouse many = Kit.taken("method f(n) needs n >= 0 steps 5*n + 7 cells 2*n { var i,x; a: goto h; by {6+5*#0; 2*#0;"
+                + " #0; 2; 0} h keeps n - i >= 0 left 5*n - 5*i + 4, 2*n - 2*i: if i < n goto b else o; by {3+5*#1; 2*#1;"
+                + " #2; 0; 0; 2+5*#1; 2*#1} b keeps n - i - 1 >= 0 left 5*n - 5*i + 3, 2*n - 2*i: x = new 1; x[0] = i;"
+                + " i = i + 1; goto h; by {4+5*#1; 2+2*#1; 2*#1; #1; 0; 0} o left 1, 0: return i; by {0; 0} }");
+        many.run(0, 2500, 0, 0);
+        Kit.due("9: many arrays", many.about(7), 2500);
+        Kit.due("9: all cells", many.about(2), 5000);
+        for (int k = 1; k <= 2500; k += 7) {
+            Kit.due("9: cell(" + k + ", 0)", many.cell(k, 0), k - 1);
+        }
+        many.run(0, 2501, 0, 0);
+        Kit.due("9: one array too many", many.about(6), 5);
+        Kit.due("9: the last one there", many.cell(2500, 0), 2499);
+        Kit.due("9: behind the last one", many.cell(2501, 0), 0);
+    }
+
+    private static long seventh(long v) {
+        return v * v * v * v * v * v * v;
     }
 
     /** Promise 10. */

@@ -28,4 +28,16 @@ final class Texts {
             + " method out1(u,w) needs u >= 0, w - u >= 0 steps 3*w + 3*u + 14 cells u + w + 2 gives result >= 2"
             + " { var x,y,v; a: x = in1(u); y = in1(w); v = x + y; return v;"
             + " by {10+6*#0+3*#1; 2+2*#0+#1; #0; 6+3*#0+3*#1; 1+#0+#1; #1+#0; 2; 0; #2+#3} }";
+
+    /** Fills an array with what is given, and adds it up. */
+    static final String FILL = "method s(n) needs n >= 0 steps 9*n + 20 cells n + 1 { var x,i,t,y;"
+            + " a: x = new n; goto h; by {18+9*#0; 1+#0; 0; #0; 8; 0}"
+            + " h keeps n - i >= 0 left 9*n - 9*i + 10, 0: if i < n goto b else o;"
+            + " by {9+9*#1; 0; #2; 1; 0; 6+9*#1; 0}"
+            + " b keeps n - i - 1 >= 0 left 9*n - 9*i + 8, 0: t = read; x[i] = t; t = x[i]; y = y + t; i = i + 1; goto h;"
+            + " by {11+9*#1; 0; #1; 1; 0} o left 3, 0: return y; by {2; 0} }";
+
+    static final String PARITY = "method p(n) steps 6 cells 0 gives result >= 0, result <= 1 { var r;"
+            + " a: r = n % 2; if r == 0 goto e else o; by {4; 0; 2; 0; 2; 0}"
+            + " e left 2, 0: return 1; by {1; 0; 1; 0} o left 2, 0: return 0; by {1; 0; 0; 1} }";
 }
