@@ -604,6 +604,8 @@ public final class BoundHouse {
         final ArrayList<Method> methods = new ArrayList<>();
         final ArrayList<Block> blocks = new ArrayList<>();
         final ArrayList<Witness> witnesses = new ArrayList<>();
+        /** What a witness shows that was not looked at yet. */
+        final Poly nothing = new Poly(0);
         /** Terms of all witnesses; what is no hypothesis of a term is below 0. */
         int products = 0;
         private int[] numbers = new int[16];
@@ -684,19 +686,24 @@ public final class BoundHouse {
     static final class Block {
         final Method method;
         final int place;
+        final boolean first;
         final ArrayList<Poly> keeps = new ArrayList<>();
         final ArrayList<Step> steps = new ArrayList<>();
-        Poly leftSteps = new Poly(0);
-        Poly leftCells = new Poly(0);
+        /** What is left at its beginning; at that of the first block it is what the method tells. */
+        Poly leftSteps;
+        Poly leftCells;
         Step jump = new Step(0);
         long name = 0;
         int byPlace = -1;
         int firstWitness = 0;
         int witnesses = 0;
 
-        Block(Method method, int place) {
+        Block(Method method, int place, boolean first) {
             this.method = method;
             this.place = place;
+            this.first = first;
+            leftSteps = method.steps;
+            leftCells = method.cells;
         }
     }
 
@@ -756,12 +763,13 @@ public final class BoundHouse {
         int products = 0;
         int number = 1;
         int hypotheses = 0;
-        Poly poly = new Poly(0);
+        Poly poly;
 
-        Witness(int place, int block, int firstProduct) {
+        Witness(int place, int block, int firstProduct, Poly poly) {
             this.place = place;
             this.block = block;
             this.firstProduct = firstProduct;
+            this.poly = poly;
         }
     }
 
@@ -785,7 +793,7 @@ public final class BoundHouse {
         private final Poly factor = new Poly(Algebra.TERMS);
         private Program program = new Program();
         private Method method = new Method();
-        private Block block = new Block(method, 0);
+        private Block block = new Block(method, 0, true);
         private int at = 0;
         private int stuckAt = -1;
         private int brokenAt = -1;
@@ -1029,7 +1037,7 @@ public final class BoundHouse {
         }
 
         private void readBlock(boolean first) {
-            block = new Block(method, place());
+            block = new Block(method, place(), first);
             block.name = want(Tokens.NAME);
             if (method.findBlock(block.name, 0) >= 0 || method.blocks.size() >= MOST_BLOCKS) {
                 breakRule(block.place);
@@ -1209,7 +1217,7 @@ public final class BoundHouse {
         }
 
         private void readWitness() {
-            Witness witness = new Witness(place(), program.blocks.size() - 1, program.products);
+            Witness witness = new Witness(place(), program.blocks.size() - 1, program.products, program.nothing);
             if (block.witnesses >= MOST_WITNESSES) {
                 breakRule(witness.place);
             }
@@ -1302,7 +1310,7 @@ public final class BoundHouse {
         private final Poly product = new Poly(Algebra.TERMS);
         private final Poly sum = new Poly(Algebra.TERMS);
         private Program program = new Program();
-        private Block block = new Block(new Method(), 0);
+        private Block block = new Block(new Method(), 0, true);
         private int next = 0;
 
         Prover(Algebra algebra) {
@@ -1366,9 +1374,8 @@ public final class BoundHouse {
 
         private void begin() {
             Method method = block.method;
-            boolean first = method.blocks.get(0) == block;
             for (int k = 0; k < values.length; k++) {
-                if (first && k >= method.params) {
+                if (block.first && k >= method.params) {
                     values[k].size = 0;
                 } else {
                     values[k].setSymbol(k);
@@ -1381,8 +1388,8 @@ public final class BoundHouse {
             for (int i = 0; i < block.keeps.size(); i++) {
                 come(block.keeps.get(i));
             }
-            steps.copy(first ? method.steps : block.leftSteps);
-            cells.copy(first ? method.cells : block.leftCells);
+            steps.copy(block.leftSteps);
+            cells.copy(block.leftCells);
         }
 
         private void come(Poly poly) {

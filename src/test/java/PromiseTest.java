@@ -85,9 +85,32 @@ public final class PromiseTest {
         Kit.due("3: the first n bytes alone, judged", house.judge(TINY.length()), 0);
         Kit.due("3: taken, not run yet", house.about(0), NONE);
         Kit.due("3: taken, no result yet", house.result(), 0);
+        String half = TINY.substring(0, 19) + " ".repeat(4000 - TINY.length()) + TINY.substring(19);
+        Kit.due("3: 4,000 bytes", Kit.judge(house, half), 0);
+        Kit.due("3: 4,000 bytes, the place of a witness", house.shown(1, 0), 3996);
+        Kit.due("3: 4,000 bytes, the last one wrong", Kit.judge(house, half.substring(0, 3999) + "0"), 1);
+        Kit.due("3: 4,000 bytes, its place", house.fault(1), 3999);
+        String tiny = "method f() steps 1 cells 0{a:fail;by{" + "0+".repeat(1978) + "0;0}}";
+        Kit.due("3: 4,000 bytes, nearly all tokens, and far too many terms", Kit.judge(house, tiny), 2);
+        Kit.due("3: 4,000 bytes, the 21st term", house.fault(1), 37 + 40);
+        Kit.due("3: 4,000 bytes, as long as that", tiny.length(), 3998);
+        dueCut("method f() steps 1", "cells", 1, 18);
+        dueCut("method f() steps 12345678", "9", 1, 25);
+        dueCut("method abcdefgh", "i", 1, 15);
+        dueCut("method f(n) needs n >", "= 0", 1, 20);
+        dueCut("method f() steps 1 cells 0 { a: return 7; by {0; 0} }", "x", 0, NONE);
+        dueCut("method f() steps 1 cells 0 { a: return 7; by {0; 0} }", "\u0000", 0, NONE);
         Kit.due("3: judge(0), the program of no methods", house.judge(0), 0);
         Kit.due("3: no methods", house.count(0), 0);
         Kit.due("3: none to run", house.run(0, 0, 0, 0), NONE);
+    }
+
+    /** What stands behind the first n bytes is not looked at. */
+    private static void dueCut(String text, String behind, int fault, int place) {
+        BoundHouse house = new BoundHouse();
+        Kit.feed(house, text + behind);
+        Kit.due("3: " + text + " ahead of " + behind, house.judge(text.length()), fault);
+        Kit.due("3: its place", house.fault(1), place);
     }
 
     /** Promise 4; FaultTest has what each FAULT is. */
