@@ -197,9 +197,14 @@ public final class OracleTest {
                 + " c left 1 + n^5*m - n^6 + m^6 - n*m^5, x^2 - n^2*m^2: x = read; return x; }";
         long[] values = {0, 1, -1, 2, 3037000499L, Integer.MAX_VALUE, Integer.MIN_VALUE, Integer.MAX_VALUE - 1,
             Integer.MIN_VALUE + 1, Long.MAX_VALUE, Long.MIN_VALUE, Long.MIN_VALUE + 1};
+        // (n - m)^4 - 1 and its like: 0 or below 0 only where n and m are near
+        String near = "method g(n,m,k) needs n^4 + 6*n^2*m^2 + m^4 - 4*n^3*m - 4*n*m^3 - 1 >= 0, n >= k steps 9 cells 9"
+                + " gives k^3 + 3*k*n^2 - 3*k^2*n - n^3 <= 0, result^5 >= k^5, k^4*result >= n { var x; a: goto b;"
+                + " b keeps 2*n^4 + 2*m^4 + 12*n^2*m^2 - 8*n^3*m - 8*n*m^3 - 3 >= 0 left 3, 0: return m; }";
         for (long n : values) {
             for (long m : values) {
                 lookOver(text, new long[] {n, m, 0});
+                lookOver(near, new long[] {n, m, m}, new long[] {n, n - 1, n + 1}, new long[] {n, n + 2, m});
             }
         }
     }
