@@ -446,8 +446,12 @@ public final class PromiseTest {
             Kit.due("13: what " + bad, house.term(0, 0, bad), bad == -1 ? 1 : 0);
         }
         Kit.due("13: behind the last term", house.term(0, 6, -1), 0);
-        Kit.due("13: what 16", house.term(0, 0, 16), 0);
-        Kit.due("13: what -2", house.term(0, 0, -2), 0);
+        int[] noSymbols = {16, 17, 31, 32, 64, -2, -3, -16, -32, Integer.MIN_VALUE, Integer.MAX_VALUE};
+        for (int what : noSymbols) {
+            for (int k = 0; k < want.length; k++) {
+                Kit.due("13: term(0, " + k + ", " + what + ")", house.term(0, k, what), 0);
+            }
+        }
         Kit.due("13: behind the last poly", house.term(house.count(2), 0, -1), 0);
         Kit.judge(house, "method f(a) needs 5 - a >= 0 steps 6 cells 0 { s: return a; by {5; 0} }"
                 .replace("steps 6", "steps 6 - a").replace("{5;", "{#0;"));
