@@ -818,6 +818,7 @@ public final class BoundHouse {
             stuckAt = -1;
             brokenAt = -1;
             bigAt = -1;
+            algebra.big = false;
             for (int turn = 0; turn < tokens.size && kind() == Tokens.METHOD; turn++) {
                 readHead();
                 readBlock(true);

@@ -9,6 +9,10 @@ public final class OracleTest {
     private static final int[] ENDS = new int[4];
     private static final int[] WHYS = new int[7];
     private static int runs = 0;
+    private static final BoundHouse OLD_HOUSE = new BoundHouse();
+    /** The latest text that the old house took, and its run. */
+    private static Oracle taken = null;
+    private static Trial takenRun = null;
 
     public static void main(String[] args) {
         int many = args.length > 0 ? Integer.parseInt(args[0]) : 3000;
@@ -20,6 +24,7 @@ public final class OracleTest {
             compare(base, maker);
             compare(maker.changed(base), maker);
             compare(maker.changed(base), maker);
+            compareInOneHouse(turn % 3 == 0 ? base : maker.changed(base));
             if (turn % 8 == 0) {
                 lookOver(maker.changed(base), new long[] {input(maker), input(maker), input(maker)});
             }
@@ -53,6 +58,8 @@ public final class OracleTest {
             return;
         }
         compareProofs(text, house, oracle);
+        due(text, "about ahead of a run", house.about(0), -1);
+        due(text, "overs ahead of a run", house.overs(), 0);
         List<Long> given = new ArrayList<>();
         for (int turn = 0; turn < 4; turn++) {
             long value = maker.below(4) == 0 ? Long.MIN_VALUE + maker.below(2) : maker.below(20) - 5;
@@ -61,6 +68,34 @@ public final class OracleTest {
             for (int m = -1; m <= oracle.methods.size(); m++) {
                 compareRun(text, house, oracle, maker, given, m);
             }
+        }
+    }
+
+    /** Judges text behind text: nothing of one may be left for the next, but the program and its run. */
+    private static void compareInOneHouse(String text) {
+        if (text.length() > 4000) {
+            return;
+        }
+        Oracle oracle = new Oracle(Kit.bytes(text), true);
+        due(text, "judge, of many", Kit.judge(OLD_HOUSE, text), oracle.fault);
+        due(text, "fault(0), of many", OLD_HOUSE.fault(0), oracle.fault);
+        due(text, "fault(1), of many", OLD_HOUSE.fault(1), oracle.place);
+        if (oracle.fault == 0) {
+            taken = oracle;
+            takenRun = null;
+            due(text, "about ahead of a run, of many", OLD_HOUSE.about(0), -1);
+            due(text, "result ahead of a run, of many", OLD_HOUSE.result(), 0);
+            due(text, "overs ahead of a run, of many", OLD_HOUSE.overs(), 0);
+        }
+        if (taken != null) {
+            compareProofs(text, OLD_HOUSE, taken);
+        }
+        if (takenRun != null) {
+            compareFacts(text, "run, of many", OLD_HOUSE, takenRun);
+        } else if (oracle.fault == 0 && !oracle.methods.isEmpty()) {
+            Trial trial = new Trial(oracle, 0, new long[] {3, 4, 5}, List.of(), true);
+            due(text, "run, of many", OLD_HOUSE.run(0, 3, 4, 5), trial.meets ? trial.end : -1);
+            takenRun = trial.meets ? trial : null;
         }
     }
 
@@ -89,8 +124,6 @@ public final class OracleTest {
             due(text, "count(" + what + ")", house.count(what), counts[what]);
         }
         due(text, "shown behind the last", house.shown(oracle.witnesses.size(), 0), -1);
-        due(text, "about ahead of a run", house.about(0), -1);
-        due(text, "overs ahead of a run", house.overs(), 0);
     }
 
     private static int input(Maker maker) {

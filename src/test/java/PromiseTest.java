@@ -128,6 +128,19 @@ public final class PromiseTest {
         Kit.due("4: fault(1) without", house.fault(1), NONE);
         Kit.judge(house, "!");
         Kit.due("4: fault(1) at 0", house.fault(1), 0);
+        String[] faulty = {"method", "method f() steps g cells 0 { a: fail; }", "method f() steps 1 cells 0 { a: fail; }",
+            "method f() steps 1 cells 0 { a: fail; by {1; 0} }", "method f() steps 99999999 + 1 cells 0 { a: fail; }",
+            "method f() steps 9 cells 0 { a: fail; by {8; 99999999+1} }",
+            "method f(n) steps 9 cells 0 { var x,y; a: x = n + 99999999; y = x + x; fail; by {6; 0} }"};
+        int[] faults = {1, 2, 3, 4, 5, 5, 5};
+        for (int one = 0; one < faulty.length; one++) {
+            Kit.due("4: " + faulty[one], Kit.judge(house, faulty[one]), faults[one]);
+            Kit.due("4: a text behind it", Kit.judge(house, TINY), 0);
+            for (int two = 0; two < faulty.length; two++) {
+                Kit.judge(house, faulty[one]);
+                Kit.due("4: " + faulty[two] + " behind another", Kit.judge(house, faulty[two]), faults[two]);
+            }
+        }
     }
 
     /** Promise 5. */
