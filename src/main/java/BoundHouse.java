@@ -116,7 +116,7 @@ public final class BoundHouse {
         if (what < 0 || what > 1 || !meets(m, a, b, c)) {
             return NONE;
         }
-        Method method = program.methods.get(m);
+        Method method = program.methodAt(m);
         long worth = algebra.worth(what == 0 ? method.steps : method.cells, inputs);
         return algebra.beyond ? NONE : worth;
     }
@@ -604,6 +604,7 @@ public final class BoundHouse {
         final ArrayList<Method> methods = new ArrayList<>();
         final ArrayList<Block> blocks = new ArrayList<>();
         final ArrayList<Witness> witnesses = new ArrayList<>();
+        private final Method nobody = new Method();
         /** What a witness shows that was not looked at yet. */
         final Poly nothing = new Poly(0);
         /** Terms of all witnesses; what is no hypothesis of a term is below 0. */
@@ -634,6 +635,11 @@ public final class BoundHouse {
 
         int hyp(int product, int k) {
             return product >= 0 && product < products && k >= 0 && k < HYPS ? hyps[product * HYPS + k] : -1;
+        }
+
+        /** The method of this number; one that is empty, if there is none such. */
+        Method methodAt(int m) {
+            return m >= 0 && m < methods.size() ? methods.get(m) : nobody;
         }
 
         int findMethod(long name) {
@@ -1362,15 +1368,21 @@ public final class BoundHouse {
                 if (step.kind == Step.MAKE) {
                     wanted++;
                 } else if (step.kind == Step.CALL) {
-                    wanted += program.methods.get(step.goals[0]).needs.size() + 2;
+                    wanted += program.methodAt(step.goals[0]).needs.size() + 2;
                 }
             }
             Step jump = block.jump;
             int goals = jump.kind == Step.CHOOSE ? 2 : jump.kind == Step.GO ? 1 : 0;
             for (int k = 0; k < goals; k++) {
-                wanted += block.method.blocks.get(jump.goals[k]).keeps.size() + 2;
+                wanted += goalOf(jump, k).keeps.size() + 2;
             }
             return jump.kind == Step.GIVE_BACK ? wanted + block.method.gives.size() : wanted;
+        }
+
+        /** The block that a jump of this one goes to. */
+        private Block goalOf(Step jump, int k) {
+            int goal = jump.goals[k];
+            return goal >= 0 && goal < block.method.blocks.size() ? block.method.blocks.get(goal) : block;
         }
 
         private void begin() {
@@ -1473,37 +1485,53 @@ public final class BoundHouse {
             readAtom(step, 1, b);
             unknown.setSymbol(Math.min(BROUGHT + index, Poly.SYMBOLS - 1));
             switch (step.kind) {
-                case Step.SET -> setTarget(step, a);
-                case Step.ADD -> {
+                case Step.SET:
+                    setTarget(step, a);
+                    break;
+                case Step.ADD:
                     algebra.plus(a, b, work);
                     setTarget(step, work);
-                }
-                case Step.SUBTRACT -> {
+                    break;
+                case Step.SUBTRACT:
                     algebra.minus(a, b, work);
                     setTarget(step, work);
-                }
-                case Step.MULTIPLY -> {
+                    break;
+                case Step.MULTIPLY:
                     algebra.times(a, b, work);
                     setTarget(step, work);
-                }
-                case Step.DIVIDE -> proveDivision(step);
-                case Step.REMAIN -> proveRemainder(step);
-                case Step.MAKE -> proveMaking(step);
-                case Step.LENGTH -> {
-                    come(unknown);
-                    setTarget(step, unknown);
-                }
-                case Step.LOAD -> {
+                    break;
+                case Step.DIVIDE:
+                    proveDivision(step);
+                    break;
+                case Step.REMAIN:
+                    proveRemainder(step);
+                    break;
+                case Step.MAKE:
+                    proveMaking(step);
+                    break;
+                case Step.CALL:
+                    proveCall(step);
+                    break;
+                case Step.STORE:
                     come(a);
-                    setTarget(step, unknown);
-                }
-                case Step.STORE -> come(a);
-                case Step.CALL -> proveCall(step);
-                default -> setTarget(step, unknown);
+                    break;
+                default:
+                    proveUnknown(step);
+                    break;
             }
             if (algebra.big) {
                 refuse(5, step.place);
             }
+        }
+
+        /** len, x[a] or read: what it brings nobody knows, but that a length or an index is 0 or more. */
+        private void proveUnknown(Step step) {
+            if (step.kind == Step.LENGTH) {
+                come(unknown);
+            } else if (step.kind == Step.LOAD) {
+                come(a);
+            }
+            setTarget(step, unknown);
         }
 
         private void setTarget(Step step, Poly value) {
@@ -1551,7 +1579,7 @@ public final class BoundHouse {
         }
 
         private void proveCall(Step step) {
-            Method called = program.methods.get(step.goals[0]);
+            Method called = program.methodAt(step.goals[0]);
             int params = Math.min(called.params, Method.PARAMS);
             for (int k = 0; k < params; k++) {
                 readAtom(step, k, inputs[k]);
@@ -1628,7 +1656,7 @@ public final class BoundHouse {
         }
 
         private void proveGoal(Step jump, int k) {
-            Block goal = block.method.blocks.get(jump.goals[k]);
+            Block goal = goalOf(jump, k);
             for (int i = 0; i < goal.keeps.size() && faultKind == 0; i++) {
                 algebra.put(goal.keeps.get(i), values, work);
                 show(work, jump.place);
@@ -1714,7 +1742,7 @@ public final class BoundHouse {
             audit = watcher;
             System.arraycopy(params, 0, inputs, 0, inputs.length);
             begin();
-            openCall(program.methods.get(m));
+            openCall(program.methodAt(m));
             tell();
             for (int turn = 0; turn < STEP_LIMIT && running && open > 0; turn++) {
                 int spot = spots[open - 1];
@@ -1777,6 +1805,10 @@ public final class BoundHouse {
 
         /** The params' values are in inputs. */
         private void openCall(Method method) {
+            if (open >= OPEN_LIMIT || method.blocks.isEmpty()) {
+                running = false;
+                return;
+            }
             int from = open * Method.NAMES;
             for (int k = 0; k < Method.NAMES; k++) {
                 values[from + k] = k < method.params && k < inputs.length ? inputs[k] : 0;
@@ -1835,27 +1867,53 @@ public final class BoundHouse {
             long a = atom(step, 0);
             long b = atom(step, 1);
             switch (step.kind) {
-                case Step.SET -> bring(step, a);
-                case Step.ADD -> bringIf(Algebra.sumFits(a, b), step, a + b);
-                case Step.SUBTRACT -> bringIf(Algebra.differenceFits(a, b), step, a - b);
-                case Step.MULTIPLY -> bringIf(Algebra.productFits(a, b), step, a * b);
-                case Step.DIVIDE -> bring(step, b == 0 ? 0 : Math.floorDiv(a, b));
-                case Step.REMAIN -> bring(step, b == 0 ? 0 : Math.floorMod(a, b));
-                case Step.MAKE -> makeArray(step, a);
-                case Step.LENGTH -> {
-                    if (isArray(a)) {
-                        bring(step, starts[(int) a + 1] - starts[(int) a]);
-                    } else {
-                        breakOff(3, step);
-                    }
-                }
-                case Step.TAKE -> {
-                    int at = facts[READS];
-                    facts[READS]++;
-                    bring(step, at < givenSize && at < given.length ? given[at] : 0);
-                }
-                case Step.CALL -> doCall(step);
-                default -> doCell(step, a, b);
+                case Step.SET:
+                    bring(step, a);
+                    break;
+                case Step.ADD:
+                    bringIf(Algebra.sumFits(a, b), step, a + b);
+                    break;
+                case Step.SUBTRACT:
+                    bringIf(Algebra.differenceFits(a, b), step, a - b);
+                    break;
+                case Step.MULTIPLY:
+                    bringIf(Algebra.productFits(a, b), step, a * b);
+                    break;
+                case Step.DIVIDE:
+                    bring(step, b == 0 ? 0 : Math.floorDiv(a, b));
+                    break;
+                case Step.REMAIN:
+                    bring(step, b == 0 ? 0 : Math.floorMod(a, b));
+                    break;
+                case Step.MAKE:
+                    makeArray(step, a);
+                    break;
+                case Step.LENGTH:
+                    measure(step, a);
+                    break;
+                case Step.TAKE:
+                    takeGiven(step);
+                    break;
+                case Step.CALL:
+                    doCall(step);
+                    break;
+                default:
+                    doCell(step, a, b);
+                    break;
+            }
+        }
+
+        private void takeGiven(Step step) {
+            int at = facts[READS];
+            facts[READS]++;
+            bring(step, at < givenSize && at < given.length ? given[at] : 0);
+        }
+
+        private void measure(Step step, long array) {
+            if (isArray(array)) {
+                bring(step, starts[(int) array + 1] - starts[(int) array]);
+            } else {
+                breakOff(3, step);
             }
         }
 
@@ -1909,15 +1967,23 @@ public final class BoundHouse {
             for (int k = 0; k < inputs.length; k++) {
                 inputs[k] = atom(step, k);
             }
-            openCall(program.methods.get(step.goals[0]));
+            openCall(program.methodAt(step.goals[0]));
         }
 
         private void doJump(Step jump) {
             switch (jump.kind) {
-                case Step.GO -> enter(jump.goals[0]);
-                case Step.CHOOSE -> enter(jump.goals[holds(jump) ? 0 : 1]);
-                case Step.GIVE_BACK -> giveBack(atom(jump, 0));
-                default -> breakOff(1, jump);
+                case Step.GO:
+                    enter(jump.goals[0]);
+                    break;
+                case Step.CHOOSE:
+                    enter(jump.goals[holds(jump) ? 0 : 1]);
+                    break;
+                case Step.GIVE_BACK:
+                    giveBack(atom(jump, 0));
+                    break;
+                default:
+                    breakOff(1, jump);
+                    break;
             }
         }
 
@@ -1942,9 +2008,12 @@ public final class BoundHouse {
 
         private void enter(int goal) {
             int top = open - 1;
-            blocks[top] = blocks[top].method.blocks.get(goal);
-            spots[top] = 0;
-            event = BLOCK_BEGAN;
+            ArrayList<Block> goals = blocks[top].method.blocks;
+            if (goal >= 0 && goal < goals.size()) {
+                blocks[top] = goals.get(goal);
+                spots[top] = 0;
+                event = BLOCK_BEGAN;
+            }
         }
 
         private void giveBack(long value) {
