@@ -26,6 +26,7 @@ public final class CallEdgeTest {
         shownOfNone();
         termsThatThereAreNot();
         oversOfNone();
+        oversLeaveTheRun();
         oversOfMethods();
         oversOfBlocks();
         oversByExactNumbers();
@@ -406,6 +407,28 @@ public final class CallEdgeTest {
         }
         Kit.judge(house, SEVEN);
         Kit.due("another program", house.overs(), 0);
+    }
+
+    /** overs() tells of a run, and changes nothing of it. */
+    private static void oversLeaveTheRun() {
+        BoundHouse house = Kit.taken(BOTH + SEVEN.replace("f()", "g()")
+                + " method h(n,m,k) steps 3 cells 5 { var x; a: x = new 4; x[k] = m; return n; by {0; 5; 0} }");
+        house.run(2, 11, 12, 3);
+        house.give(5);
+        house.bound(0, 0, 1, 2, 3);
+        house.run(0, -7, 1, 1);
+        for (int turn = 0; turn < 3; turn++) {
+            Kit.due("overs", house.overs(), 0);
+            Kit.due("overs leave result()", house.result(), 11);
+            Kit.due("overs leave cell(1, 3)", house.cell(1, 3), 12);
+            int[] want = {0, 3, 5, 1, 1, NONE, NONE, 1, 0};
+            for (int what = 0; what < want.length; what++) {
+                Kit.due("overs leave about(" + what + ")", house.about(what), want[what]);
+            }
+        }
+        house.run(0, -2, 0, 0);
+        Kit.due("overs of the next run", house.overs(), 0);
+        Kit.due("overs leave why", house.about(6), 1);
     }
 
     /** What the audit finds in a run of the first method of a text whose proofs were not looked at. */

@@ -17,6 +17,8 @@ public final class ProofEdgeTest {
         whatIsLookedAtFirst();
         whenTheyDiffer();
         symbols();
+        symbolsOfStatements();
+        whatQuotientsAndRestsBring();
         localsAtTheFirstBlock();
         whatComesAndGoes();
         stepsAndCellsThatAreLeft();
@@ -297,6 +299,36 @@ public final class ProofEdgeTest {
                 Kit.due("power of " + s + " in " + k, house.term(7, k, s), s == order[k] ? powers[order[k]][1] : 0);
             }
         }
+    }
+
+    /** "6 .. 15 what its statements 0 .. 9 bring": of len, each of them. */
+    private static void symbolsOfStatements() {
+        for (int k = 0; k < 10; k++) {
+            StringBuilder body = new StringBuilder();
+            for (int i = 0; i < 10; i++) {
+                body.append(i == k ? "x = len n; " : "y = n; ");
+            }
+            BoundHouse house = Kit.taken("method f(n) steps 11 cells 0 gives result >= 0 { var x,y; a: " + body
+                    + "return x; by {0; 0; #0} }");
+            for (int what = -4; what < 24; what++) {
+                Kit.due("statement " + k + ", term(2, 0, " + what + ")", house.term(2, 0, what), what == -1 || what == 6 + k ? 1 : 0);
+            }
+        }
+    }
+
+    /** "a / n ..: a - n q, then n q + n - 1 - a come. a % n: r; r, then n - 1 - r." */
+    private static void whatQuotientsAndRestsBring() {
+        String f = "method f(n) steps 9 cells 0 gives W { var x; a: x = n O 7; return x; by {7; 0; #0; #1} }";
+        taken(f.replace("O", "/").replace("W", "n - 7*result >= 0, 7*result + 6 - n >= 0"));
+        Kit.dueFault(4, f.replace("O", "/").replace("W", "n - 7*result >= 0, 7*result + 7 - n >= 0").replace("#1", "@#1"));
+        Kit.dueFault(4, f.replace("O", "/").replace("W", "n - 6*result >= 0, 7*result + 6 - n >= 0").replace("#0", "@#0"));
+        taken(f.replace("O", "%").replace("W", "result >= 0, 6 >= result"));
+        Kit.dueFault(4, f.replace("O", "%").replace("W", "result >= 0, 5 >= result").replace("#1", "@#1"));
+        Kit.dueFault(4, f.replace("O", "%").replace("W", "result >= 1, 6 >= result").replace("#0", "@#0"));
+        Kit.dueFault(4, f.replace("O", "%").replace("W", "n >= 0, 6 >= n").replace("#0", "@#0"));
+        // by 1 nothing is left
+        taken(f.replace("O 7", "% 1").replace("W", "result >= 0, 0 >= result"));
+        taken(f.replace("O 7", "/ 1").replace("W", "n >= result, result >= n"));
     }
 
     /** "a local at that of the first block 0". */

@@ -19,6 +19,7 @@ public final class RunEdgeTest {
         lastStepOfEachKind();
         cutInACall();
         fiveThousandCells();
+        fiveThousandArrays();
         newOfLessThanNothing();
         arraysAsTheyAreMade();
         thirtyCalls();
@@ -292,6 +293,27 @@ public final class RunEdgeTest {
         dueAbout(house, "again", 0, 4, 5_000, 1, 1, NONE, NONE, 3, 0);
     }
 
+    /** As many arrays as there can be: 5,000 of no cells; and the next one. */
+    private static void fiveThousandArrays() {
+        StringBuilder cells = new StringBuilder();
+        for (int k = 8; k >= 0; k--) {
+            cells.append(k).append("+9*#1; ");
+        }
+        String text = "method f(n) needs n >= 0 steps 12*n + 7 cells 9*n + 9 { var i,x; a: goto h; by {6+12*#0; 9+9*#0; #0; 3; 9}"
+                + " h keeps n - i >= 0 left 12*n - 12*i + 3, 9*n - 9*i: if i < n goto b else o;"
+                + " by {2+12*#1; 9*#1; #2; 0; 0; 1+12*#1; 9*#1}"
+                + " b keeps n - i - 1 >= 0 left 12*n - 12*i + 2, 9*n - 9*i: " + "x = new 0; ".repeat(9) + "i = i + 1; goto h;"
+                + " by {3+12*#1; 9+9*#1; " + cells + "#1; 0; 0} o left 1, 0: return x; by {0; 0} }";
+        BoundHouse house = Kit.taken(text);
+        Kit.due("4,995 arrays", house.run(0, 555, 0, 0), 0);
+        dueAbout(house, "4,995 arrays", 0, 555 * 12 + 3, 4995, 1, 1, NONE, NONE, 4995, 0);
+        Kit.due("4,995 arrays, the last one", house.result(), 4995);
+        Kit.due("5,001 arrays", house.run(0, 556, 0, 0), 1);
+        int sixth = text.indexOf("x = new 0") + 5 * "x = new 0; ".length();
+        dueAbout(house, "5,001 arrays", 1, 1 + 555 * 12 + 1 + 6, 5000, 1, 1, sixth, 5, 5000, 0);
+        Kit.due("its cells", house.cell(5000, 0), 0);
+    }
+
     /** "5 new of less than 0", of any long. */
     private static void newOfLessThanNothing() {
         String product = "method f(n,m) needs n*m + 9 >= 0 steps 9 cells n*m + 9 { var x; a: x = n * m; x = new x; return x; by {6; #0; 8} }";
@@ -452,6 +474,17 @@ public final class RunEdgeTest {
         dueRead(store, 0, 0, 0, 0);
         dueRead(store, 0, 0, 0, 1);
         dueRead(store, 5, 0, 0, 2);
+        // of three arrays in a row each has its own cells, and no others
+        String row = "method f(n) needs n >= 0 steps 9 cells 20 { var x,y,z; a: x = new 2; y = new 3; z = new 4; y[n] = 7; z[3] = 9;"
+                + " x[1] = 5; z = y[n]; return z; by {1; 20; 17; 13; 8} }";
+        for (int n = 0; n < 8; n++) {
+            BoundHouse house = Kit.taken(row);
+            Kit.due("index " + n + " of 3", house.run(0, n, 0, 0), n < 3 ? 0 : 1);
+            Kit.due("index " + n + " of 3, why", house.about(6), n < 3 ? NONE : 4);
+            Kit.due("index " + n + " of 3, result", house.result(), n < 3 ? 7 : 0);
+            Kit.due("index " + n + " of 3, the cell ahead", house.cell(1, 1), n < 3 ? 5 : 0);
+            Kit.due("index " + n + " of 3, the cell behind", house.cell(3, n % 3), 0);
+        }
         // an array of no cells has no index
         String none = load.replace("new 3", "new 0").replace("x[1] = 8", "y = 0").replace("9; 5}", "9; 8}");
         dueRead(none, 0, 4, none.indexOf("y = x[i]"), 0);
