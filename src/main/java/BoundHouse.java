@@ -1463,7 +1463,7 @@ public final class BoundHouse {
                 product.setConstant(program.number(at));
                 for (int k = 0; k < Program.HYPS; k++) {
                     int hyp = program.hyp(at, k);
-                    if (hyp >= 0 && hyp < hypCount) {
+                    if (hyp >= 0 && hyp < hypCount && hyps[hyp] != null) {
                         algebra.times(product, hyps[hyp], product);
                     }
                 }
@@ -1725,6 +1725,13 @@ public final class BoundHouse {
         /** ARRAY k takes the cells from starts[k] up to starts[k + 1]. */
         private int[] starts = new int[16];
         private long[] heap = new long[64];
+
+        Machine() {
+            Block none = new Block(new Method(), 0, true);
+            for (int k = 0; k < blocks.length; k++) {
+                blocks[k] = none;
+            }
+        }
 
         boolean hasCell(int k, int i) {
             return isArray(k) && i >= 0 && i < starts[k + 1] - starts[k];
@@ -2065,6 +2072,10 @@ public final class BoundHouse {
 
         Audit(Algebra algebra) {
             this.algebra = algebra;
+            Method none = new Method();
+            for (int k = 0; k < methods.length; k++) {
+                methods[k] = none;
+            }
         }
 
         void begin() {
