@@ -530,6 +530,11 @@ public final class CallEdgeTest {
         dueOvers(1, "method f(n,m) needs n*m >= 0 steps 9 cells 0 { a: fail; }", high, low);
         dueOvers(0, "method f(n,m) needs n^6*m^6 >= 0 steps 9 cells 0 { a: fail; }", low, low);
         dueOvers(1, "method f(n,m) needs n^6*m^5 >= 0 steps 9 cells 0 { a: fail; }", low, low);
+        for (long m : new long[] {-2, -1, 0, 1, 2}) {
+            dueOvers(m < 0 ? 1 : 0, "method f(n,m) needs n^2*m >= 0 steps 9 cells 0 { a: fail; }", high, m);
+            dueOvers(m > 0 ? 1 : 0, "method f(n,m) needs n^2*m <= 0 steps 9 cells 0 { a: fail; }", high, m);
+            dueOvers(m != 0 ? 1 : 0, "method f(n,m) needs n^3*m^2 >= 0 steps 9 cells 0 { a: fail; }", low, m);
+        }
         dueOvers(0, "method f(n,m) needs n^3 - m^3 >= 0 steps 9 cells 0 { a: fail; }", high, high);
         dueOvers(0, "method f(n,m) needs n^3 - m^3 >= 0 steps 9 cells 0 { a: fail; }", high, high - 1);
         dueOvers(1, "method f(n,m) needs n^3 - m^3 >= 0 steps 9 cells 0 { a: fail; }", high - 1, high);

@@ -460,6 +460,9 @@ public final class RuleEdgeTest {
         Kit.dueFault(2, "method f(a) needs @q^7 >= 0 steps 1 cells 0" + BODY);
         Kit.dueFault(2, "method f(a) needs a^@7*q >= 0 steps 1 cells 0" + BODY);
         Kit.dueFault(2, one("x = @f(); fail;") + " method f(a,a) steps 1 cells 0" + BODY);
+        // of two methods with one name a call means the first
+        Kit.dueFault(2, one("x = @f(); fail;") + " method f() steps 1 cells 0" + BODY);
+        Kit.dueFault(2, one("x = f(n); fail;") + " method @f() steps 1 cells 0" + BODY);
         Kit.dueFault(2, methods(13).replace("@", "").replace("f11() steps 1", "f11() steps @q"));
     }
 }
